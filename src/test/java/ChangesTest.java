@@ -234,6 +234,16 @@ public final class ChangesTest {
         due.same("rank behind code", x.rank(2), 1);
         x.add(2, 0, 1);
         due.same("latent behind add", x.stucks(1), 4);
+        due.same("not exposed behind add", x.stucks(0), 4);
+        due.same("readers of gate 0", x.gateOf(0, 3), 0);
+        x.add(2, 2, 2);
+        due.same("readers of gate 0 behind add", x.gateOf(0, 3), 1);
+        x.rails(4, 4);
+        due.same("not exposed behind rails", x.stucks(0), 0);
+        x.undo();
+        due.same("not exposed behind undo", x.stucks(0), 6);
+        x.undo();
+        due.same("readers of gate 0 behind undo", x.gateOf(0, 3), 0);
         x.build(3);
         due.same("words behind build", x.word(-1), 8);
         due.same("tests behind build", x.test(-1), 4);

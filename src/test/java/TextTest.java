@@ -14,7 +14,10 @@ public final class TextTest {
         faultOfRails();
         faultOfCodes();
         faultIsTheFirstOne();
+        faultOfWhatIsThereNow();
+        faultAtTheEndOfFullTexts();
         lay();
+        layForgetsEarlierTexts();
         layRefused();
         layEndsUndoing();
         due.end();
@@ -92,6 +95,8 @@ public final class TextTest {
         fault(" n4;", 0);
         fault("n4;o0,0;;", 8);
         fault("n4;x1,1;", 3);
+        fault("n4;x0;", 3);
+        fault("n4;x;", 3);
         fault("N4;", 0);
         fault("n4;G0,0,0;", 3);
         fault("n4;g0,0,0;x", 10);
@@ -177,6 +182,44 @@ public final class TextTest {
         fault("n4;g9,0,0;n4;o99,0;", 3);
         fault("n4;o0,0;g9,0,0;x", 8);
         fault("n9;n4;", 0);
+    }
+
+    /** Letters that were wiped tell nothing any more. */
+    private static void faultOfWhatIsThereNow() {
+        SelfChecks x = new SelfChecks();
+        Due.type(x, "n4;c1,22;");
+        x.wipe();
+        Due.type(x, "n4");
+        due.same("fault without the wiped ;", x.fault(), 0);
+        Due.type(x, ";c1,2");
+        due.same("fault without the wiped 2;", x.fault(), 3);
+        x.write(';');
+        due.same("no fault with a ; of its own", x.fault(), SelfChecks.NONE);
+        due.same("lay", x.lay(), 4);
+        due.same("the number without the wiped figure", x.count(5), 2);
+    }
+
+    /** 193 letters of ITEMS, and seven more. */
+    private static void faultAtTheEndOfFullTexts() {
+        String ahead = "n4;" + "o0,0;".repeat(38);
+        fault(ahead + "o0,0;" + "c1", 198);
+        fault(ahead + "o0,00;" + "c", 199);
+        fault(ahead + "g0,0,10", 193);
+        fault(ahead + "g0,00,0", 193);
+        fault(ahead + "g0,0,0;", SelfChecks.NONE);
+    }
+
+    private static void layForgetsEarlierTexts() {
+        SelfChecks x = new SelfChecks();
+        Due.type(x, "n3;g0,0,1;o3,2;c1,2;");
+        due.same("lay", x.lay(), 4);
+        x.wipe();
+        Due.type(x, "n2;");
+        due.same("lay less", x.lay(), 2);
+        int[] want = {2, 0, 0, 0, 0, 0};
+        for (int what = 0; what < want.length; what++) {
+            due.same("count(" + what + ") then", x.count(what), want[what]);
+        }
     }
 
     private static void lay() {

@@ -113,6 +113,8 @@ public final class WiresTest {
         for (int g = 0; g < 24; g++) {
             x.add(4, 7 + g, 7 + g);
         }
+        due.same("gateOf(0, 3) with 24 gates", x.gateOf(0, 3), 1);
+        due.same("gateOf(23, 3)", x.gateOf(23, 3), 0);
         x.rails(31, 30);
         due.same("wire(128, 31)", x.wire(128, 31), 1);
         due.same("wire(127, 31)", x.wire(127, 31), 0);
