@@ -16,6 +16,10 @@ final class Due {
         same(what, is ? 1 : 0, 1);
     }
 
+    int looks() {
+        return right + wrong;
+    }
+
     boolean anyWrong() {
         return wrong != 0;
     }

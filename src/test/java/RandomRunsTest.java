@@ -2,7 +2,8 @@ import java.util.Random;
 
 /** Runs of up to 512 random calls, seeded, answered by the class and by the plain model. */
 public final class RandomRunsTest {
-    private static final int RUNS = 1500;
+    private static final int RUNS = 2500;
+    private static final int MOST_CALLS = 512;
     private static final int[] FAR = {Integer.MIN_VALUE, Integer.MAX_VALUE, -1, -2, 1 << 30, 256, 64};
     private static final Due due = new Due();
 
@@ -25,18 +26,26 @@ public final class RandomRunsTest {
     }
 
     private void run() {
-        int most = 100 + random.nextInt(412);
+        int most = 100 + random.nextInt(MOST_CALLS - 99);
         while (calls < most && !due.anyWrong()) {
-            switch (random.nextInt(12)) {
-                case 0 -> text();
-                case 1, 2, 3 -> change();
-                default -> ask();
+            int kind = random.nextInt(48);
+            // A text is many calls at once, so it comes seldom.
+            if (kind == 0) {
+                text();
+            } else if (kind <= 12) {
+                change();
+            } else {
+                ask();
             }
         }
     }
 
+    /** Every call on x goes through here, since what calls behind the last one answer is free. */
     private void same(String call, int got, int want) {
         calls++;
+        if (calls > MOST_CALLS) {
+            return;
+        }
         due.same("seed " + seed + ", call " + calls + ": " + call, got, want);
     }
 
@@ -50,17 +59,14 @@ public final class RandomRunsTest {
     }
 
     private int wires() {
-        return x.count(0) + x.count(1);
+        return model.count(0) + model.count(1);
     }
 
     private void text() {
-        if (calls > 480) {
-            return;
-        }
         same("wipe", x.wipe(), model.wipe());
         String text = someText();
         for (int i = 0; i < text.length(); i++) {
-            due.same("write", x.write(text.charAt(i)), model.write(text.charAt(i)));
+            same("write", x.write(text.charAt(i)), model.write(text.charAt(i)));
         }
         same("fault of " + text, x.fault(), model.fault());
         same("lay of " + text, x.lay(), model.lay());
@@ -106,8 +112,8 @@ public final class RandomRunsTest {
         int a = about(wires());
         int b = about(wires());
         int k = about(6);
-        int g = about(x.count(1));
-        int number = random.nextInt(3) == 0 ? 0 : about(x.count(0) + 1);
+        int g = about(model.count(1));
+        int number = random.nextInt(3) == 0 ? 0 : about(model.count(0) + 1);
         int m = about(random.nextInt(4) == 0 ? 6 : 3);
         switch (random.nextInt(12)) {
             case 0, 1 -> same("gate " + g + " " + k + " " + a + " " + b,
@@ -131,7 +137,7 @@ public final class RandomRunsTest {
     }
 
     private void ask() {
-        int word = about(1 << x.count(0));
+        int word = about(1 << model.count(0));
         int s = about(2 * wires());
         int t = about(2 * wires());
         int w = about(wires());
