@@ -152,8 +152,8 @@ final class ChangesEdges {
     /** The i-th of a row of changes of all kinds, none of which is refused. */
     private static void oneChange(SelfChecks x, int i) {
         switch (i % 5) {
-            case 0 -> x.build(1 + i / 5);
-            case 1 -> x.rails(i % 2, 1);
+            case 0 -> x.build(1);
+            case 1 -> x.rails(1, i % 2);
             case 2 -> x.add(i % 6, 0, 1);
             case 3 -> x.code(1, i % 2);
             default -> x.gate(0, i % 6, 1, 1);

@@ -34,7 +34,8 @@ final class CodeEdges {
         SelfChecks x = Due.laid(text);
         edges.same(text + " words", x.word(-1), words.length);
         int next = 0;
-        for (int word = 0; word < Made.words(x); word++) {
+        int past = Made.words(x);
+        for (int word = 0; word < past; word++) {
             boolean isNext = next < words.length && words[next] == word;
             edges.same(text + " rank(" + word + ")", x.rank(word), isNext ? next : NONE);
             next += isNext ? 1 : 0;

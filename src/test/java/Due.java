@@ -53,7 +53,8 @@ final class Due {
         for (int what = 0; what <= 8; what++) {
             all.append(x.count(what)).append(' ');
         }
-        for (int g = 0; g < x.count(1); g++) {
+        int gates = x.count(1);
+        for (int g = 0; g < gates; g++) {
             all.append('g').append(x.gateOf(g, 0)).append(',').append(x.gateOf(g, 1)).append(',')
                     .append(x.gateOf(g, 2)).append(' ');
         }

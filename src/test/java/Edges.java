@@ -84,7 +84,10 @@ final class Edges {
                 whole(maker, call).equals(whole(maker, x -> 0)));
     }
 
-    /** All that can be told behind a call: what stands, what undoing brings back, what the text lays. */
+    /**
+     * All that can be told behind a call: what stands, what undoing brings back, what the text lays.
+     * What is worked out is asked for behind each, since the call may have left something of it.
+     */
     private static String whole(Made.Maker maker, Call call) {
         StringBuilder all = new StringBuilder();
         // An object for each, since no object may be asked too often.
@@ -94,12 +97,12 @@ final class Edges {
             for (int i = 0; i < undos; i++) {
                 all.append(x.undo()).append(' ');
             }
-            all.append(Due.state(x)).append('\n');
+            all.append(Due.state(x)).append(workedOut(x)).append('\n');
         }
         SelfChecks x = maker.make();
         call.on(x);
-        all.append(workedOut(x)).append(x.fault()).append(' ').append(x.lay()).append(' ');
-        return all.append(Due.state(x)).toString();
+        all.append(x.fault()).append(' ').append(x.lay()).append(' ');
+        return all.append(Due.state(x)).append(workedOut(x)).toString();
     }
 
     private static String workedOut(SelfChecks x) {

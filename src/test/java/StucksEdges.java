@@ -148,13 +148,13 @@ final class StucksEdges {
         edges.sentence("TESTING, if each STUCK is EXPOSED by some WORD of the CODE;");
         isOf(INPUTS + "c3,0;", 1, 1);
         isOf(INPUTS, 1, 1);
-        // Word 0 alone exposes the stucks at 0, word 3 alone those at 1.
+        // By word 0 alone OUT shows the stucks at 0, by word 3 alone those at 1.
         isOf(INPUTS + "c1,0;", 1, 0);
         isOf(INPUTS + "c1,2;", 1, 0);
         isOf(PASSING, 1, 0);
         // One gate that goes nowhere, and all else exposed.
         isOf(INPUTS + "c3,0;g0,0,0;", 1, 0);
-        // One stuck alone that none exposes: the run of the test under ../shared, told shorter.
+        // One stuck alone that none exposes, all others are.
         edges.same("all but one", oneNotExposed().stucks(0), 1);
         edges.same("is(1) of it", oneNotExposed().is(1), 0);
         for (int m = 1; m <= 4; m++) {
@@ -374,11 +374,11 @@ final class StucksEdges {
         stucksAre("n8;g3,7,7;o7,8;", 3, 0);
         stucksAre("n8;g3,7,7;o7,8;", 4, 0);
         stucksAre("n8;g3,7,7;o7,8;", 5, 14);
-        // The last gate alone goes nowhere: its stucks are the last two of 64.
-        String last = "n8;" + "g5,0,0;".repeat(23) + "g0,0,0;o0,0;";
-        stucksAre(last, 0, 0);
-        stucksAre(last, 1, 62);
-        stucksAre(last, 4, 2);
+        // Input 0 is both rails: all 64 are exposed, and all but its own two are latent.
+        String one = "n8;" + "g5,0,0;".repeat(24) + "o0,0;";
+        stucksAre(one, 0, 0);
+        stucksAre(one, 1, 62);
+        stucksAre(one, 4, 2);
         edges.same("the highest one, not exposed", lastIsLowest().stucks(3), 62);
         edges.same("the highest one, latent", lastIsLowest().stucks(4), 62);
         edges.same("how many", lastIsLowest().stucks(1), 2);
@@ -449,10 +449,8 @@ final class StucksEdges {
         edges.same("from one that was not VALID", Due.laid("n2;o0,1;c1,0;").both(0, 3, 1), 1);
         edges.same("none of 256", Made.full().both(60, 63, 1), 0);
         edges.sentence("BAD (STUCKS of one WIRE, too).");
-        for (int kind = 0; kind <= 1; kind++) {
-            int what = kind;
-            bothRefused(what);
-        }
+        bothRefused(0);
+        bothRefused(1);
         edges.refused("what -1", x -> x.both(0, 3, -1), BAD);
         edges.refused("what 2", x -> x.both(0, 3, 2), BAD);
         for (int far : FAR) {
@@ -483,12 +481,12 @@ final class StucksEdges {
 
     private void count() {
         edges.sentence("How many: 0 INPUTS, 1 GATES, 2 P, 3 Q, 4 KIND of CODE, 5 its NUMBER,");
-        counts("least", Made.least(), 0, 1, 0, 0, 0, 0, 0);
-        counts("busy", Made.busy(), 0, 4, 7, 10, 2, 3, 0);
+        counts("least", Made.least(), 1, 0, 0, 0, 0, 0);
+        counts("busy", Made.busy(), 4, 7, 10, 2, 3, 0);
         SelfChecks most = Made.full();
         most.rails(31, 31);
         most.code(2, 8);
-        counts("full", most, 0, 8, 24, 31, 31, 2, 8);
+        counts("full", most, 8, 24, 31, 31, 2, 8);
         edges.sentence("6 WORDS with VALID OUTS,");
         edges.same("none", Made.least().count(6), 0);
         edges.same("all of 256", Due.laid("n8;g3,7,7;o7,8;").count(6), 256);
@@ -518,9 +516,9 @@ final class StucksEdges {
         }
     }
 
-    private void counts(String which, SelfChecks x, int first, int... want) {
-        for (int i = 0; i < want.length; i++) {
-            edges.same("count(" + (first + i) + ") of " + which, x.count(first + i), want[i]);
+    private void counts(String which, SelfChecks x, int... want) {
+        for (int what = 0; what < want.length; what++) {
+            edges.same("count(" + what + ") of " + which, x.count(what), want[what]);
         }
     }
 }

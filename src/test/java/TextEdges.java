@@ -65,6 +65,7 @@ final class TextEdges {
             boolean isItem = sign == 'o' || sign == 'c';
             edges.fault("n2;" + (char) sign + "1,1;", isItem ? NONE : 3);
             edges.fault("n2;" + (char) sign + "1,1,1;", sign == 'g' ? NONE : 3);
+            edges.fault("n2;" + (char) sign + "1;", 3);
             edges.fault((char) sign + "2;", sign == 'n' ? NONE : 0);
         }
     }
@@ -99,6 +100,11 @@ final class TextEdges {
     }
 
     private void everyFigure() {
+        // Were the signs beside the figures -1 and 10, these would be wires 9 and 10.
+        String twelveWires = "n8;" + "g0,0,0;".repeat(4);
+        edges.fault(twelveWires + "o1/,0;", 31);
+        edges.fault(twelveWires + "o:,0;", 31);
+        edges.fault(twelveWires + "o0:,0;", 31);
         for (int w = 0; w <= 99; w++) {
             edges.fault("n8;" + "g0,0,0;".repeat(24) + "o0," + w + ";", w < 32 ? NONE : 171);
         }
@@ -132,6 +138,16 @@ final class TextEdges {
         }
         edges.same("words", x.word(-1), 16);
         edges.same("no OUT is VALID", x.count(6), 0);
+        // Also where an earlier text told otherwise.
+        SelfChecks again = new SelfChecks();
+        Due.type(again, "n4;o2,3;c1,2;");
+        again.lay();
+        again.wipe();
+        Due.type(again, "n4;");
+        edges.same("lay of inputs alone", again.lay(), 4);
+        for (int what = 2; what <= 5; what++) {
+            edges.same("count(" + what + ") behind an earlier text", again.count(what), 0);
+        }
     }
 
     private void gateItem() {
@@ -395,6 +411,7 @@ final class TextEdges {
         for (int what = 0; what < want.length; what++) {
             edges.same("count(" + what + ")", busy.count(what), want[what]);
         }
+        everythingIsOfTheNewOne();
         edges.sentence("nothing can be UNDONE.");
         edges.same("changes", busy.count(7), 0);
         edges.refused("laid", TextEdges::busyLaid, "undo", SelfChecks::undo, NO);
@@ -406,6 +423,22 @@ final class TextEdges {
         edges.same("what can be undone stays", x.count(7), 6);
         x.write(';');
         edges.same("lay with it", x.lay(), 2);
+    }
+
+    /** What was worked out ahead of lay must not be answered behind it. */
+    private void everythingIsOfTheNewOne() {
+        SelfChecks x = new SelfChecks();
+        edges.same("words ahead", x.word(-1), 4);
+        edges.same("near ahead", x.near(), 2);
+        edges.same("stucks that pass ahead", x.stucks(2), 0);
+        edges.same("tests ahead", x.test(-1), 4);
+        Due.type(x, "n1;g3,0,0;g0,0,0;o0,1;");
+        edges.same("lay", x.lay(), 3);
+        edges.same("words behind", x.word(-1), 2);
+        edges.same("near behind", x.near(), 1);
+        edges.same("stucks that pass behind", x.stucks(2), 2);
+        edges.same("stucks that none exposes behind", x.stucks(0), 4);
+        edges.same("tests behind", x.test(-1), 2);
     }
 
     private static SelfChecks busyLaid() {

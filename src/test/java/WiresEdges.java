@@ -124,6 +124,9 @@ final class WiresEdges {
         edges.same("one twice", Due.laid("n1;g0,0,0;g0,1,1;").gateOf(0, 3), 1);
         edges.same("two", Due.laid("n1;g0,0,0;g0,1,1;g0,1,2;").gateOf(0, 3), 2);
         edges.same("the last to none", Due.laid("n1;g0,0,0;g0,1,1;g0,1,2;").gateOf(2, 3), 0);
+        SelfChecks next = Due.laid("n8;g0,0,0;g0,8,8;g0,9,0;g0,0,9;g0,9,9;");
+        edges.same("gate 1, not wire 1", next.gateOf(1, 3), 3);
+        edges.same("gate 2", next.gateOf(2, 3), 0);
         SelfChecks all = Due.laid("n1;g0,0,0;" + "g0,1,1;".repeat(23));
         edges.same("all 23 others", all.gateOf(0, 3), 23);
         edges.same("the last of 24", all.gateOf(23, 3), 0);
