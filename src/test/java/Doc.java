@@ -1,8 +1,12 @@
 import java.io.IOException;
 import java.nio.file.Files;
 import java.nio.file.Path;
+import java.util.ArrayList;
 import java.util.LinkedHashMap;
+import java.util.List;
 import java.util.Map;
+import java.util.regex.Matcher;
+import java.util.regex.Pattern;
 
 /** The document's sections, and which of their words a test has quoted so far. */
 final class Doc {
@@ -52,6 +56,27 @@ final class Doc {
             section.quoted[i] = true;
         }
         return true;
+    }
+
+    /** The calls of "The public face", as "gate(g, k, a, b)"; all of them take and answer int. */
+    List<String> calls() {
+        List<String> calls = new ArrayList<>();
+        Matcher call = Pattern.compile("public int (\\w+)\\(([^)]*)\\);").matcher(face());
+        while (call.find()) {
+            calls.add(call.group(1) + "(" + call.group(2).replaceAll("\\bint ", "") + ")");
+        }
+        return calls;
+    }
+
+    /** The constants of "The public face", as "BAD = -1". */
+    List<String> constants() {
+        Matcher row = Pattern.compile("public static final int ([^;]*);").matcher(face());
+        return row.find() ? List.of(row.group(1).split(", ")) : List.of();
+    }
+
+    private String face() {
+        Section section = sections.get("The public face");
+        return section == null ? "" : section.text;
     }
 
     /** What of a section no test has quoted, without signs that tell nothing; empty if all is. */
